@@ -366,15 +366,6 @@ public final class GoldenHeaps {
     }
 
     public int turnsIn() {
-        return turnsAhead();
-    }
-
-    public int winner() {
-        // With no turns ahead it is the one who has not the turn, as with two.
-        return (game.player + turnsAhead() + 1) % PLAYERS;
-    }
-
-    private int turnsAhead() {
         trial.copyFrom(game.parts);
         int turns = 0;
         // Each turn takes a unit, so there are fewer turns than 600.
@@ -387,6 +378,11 @@ public final class GoldenHeaps {
             turns++;
         }
         return turns;
+    }
+
+    public int winner() {
+        // With no turns ahead it is the one who has not the turn, as with two.
+        return (game.player + turnsIn() + 1) % PLAYERS;
     }
 
     public int totalBehind(int part, int k, int l) throws IndexOutOfBoundsException {

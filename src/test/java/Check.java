@@ -78,6 +78,20 @@ final class Check {
         due("units behind " + text, heaps.count(11), 13);
     }
 
+    static void dueSameTable(GoldenHeaps heaps, GoldenHeaps other, int rule) {
+        for (int place = 0; place < 1681; place++) {
+            int x = place / 41;
+            int y = place % 41;
+            due("value " + x + " " + y, heaps.value(rule, x, y), other.value(rule, x, y));
+            due("span " + x + " " + y, heaps.span(rule, x, y), other.span(rule, x, y));
+        }
+        for (int what = 4; what <= 8; what++) {
+            due("rule(" + rule + ", " + what + ")", heaps.rule(rule, what), other.rule(rule, what));
+        }
+        due("share", heaps.share(rule), other.share(rule));
+        due("meanValue", heaps.meanValue(rule), other.meanValue(rule));
+    }
+
     static String output(GoldenHeaps heaps) {
         StringBuilder written = new StringBuilder();
         for (int i = 0; heaps.outputByte(i) >= 0; i++) {

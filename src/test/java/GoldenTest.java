@@ -104,6 +104,15 @@ final class GoldenTest {
         Check.due("no more", HEAPS.summand(433494437, 1), -1);
         Check.due("one less", HEAPS.summand(433494436, 0), 267914296);
         Check.due("one less", HEAPS.summand(433494436, 20), 1);
+        int ahead = 1;
+        int number = 1;
+        for (int place = 0; place <= 41; place++) {
+            Check.due("summand of " + number, HEAPS.summand(number, 0), number);
+            Check.due("no other one", HEAPS.summand(number, 1), -1);
+            Check.due("its place", HEAPS.leastPlace(number), place);
+            number += ahead;
+            ahead = number - ahead;
+        }
         for (int v : new int[] {1, 7, 88, 143, 377, 378, 987654, 499999999, 500000000, 433494436}) {
             int sum = 0;
             for (int index = 0; HEAPS.summand(v, index) > 0; index++) {

@@ -161,6 +161,10 @@ final class NumbersTest {
         Check.due("greatest VALUE", nim.rule(0, 5), 3);
         Check.due("losing positions", nim.rule(0, 6), 14 * 14 + 14 * 14 + 13 * 13);
         Check.due("boards", nim.rule(0, 7), 0);
+        GoldenHeaps boards = Check.loaded("rule a;rule b;rule c;board b 1 1;board a 1 1;stick 1 1;board b 2 2;");
+        Check.due("boards", boards.rule(0, 7), 1);
+        Check.due("boards", boards.rule(1, 7), 2);
+        Check.due("boards", boards.rule(2, 7), 0);
         Check.due("not free", nim.rule(0, 4), 0);
         Check.due("free", Check.loaded("rule a slack 5;").rule(0, 4), 1);
         Check.due("not free", Check.loaded("rule a slack 0;").rule(0, 4), 0);

@@ -6,6 +6,7 @@ final class SetupTest {
         truncate();
         load();
         loadReplaces();
+        loadAgain();
         errorChangesNothing();
         syntax();
         endOfText();
@@ -123,6 +124,40 @@ final class SetupTest {
         Check.due("over", heaps.count(8), 1);
     }
 
+    /** One object, several texts: nothing of an earlier one is left. */
+    private static void loadAgain() {
+        GoldenHeaps heaps = new GoldenHeaps();
+        dueLike(heaps, "rule a only 1 slack 0 most 9 bar 1 0;board a 9 9;board a 8 8;board a 7 7;board a 5 2;"
+            + "stick 9 3;stick 8 3;stick 7 3;stick 6 3;first 1;");
+        dueLike(heaps, "rule a only 2 slack 0 most 9 bar 1 0;board a 9 9;");
+        dueLike(heaps, "rule a only 2 slack 0 most 9 bar 2 0;board a 9 8;stick 5 3;");
+        dueLike(heaps, "rule a only 2 slack 0 most 9 bar 0 2;board a 9 8;");
+        dueLike(heaps, "rule a only 2 slack 0 most 9;");
+        dueLike(heaps, "rule a;rule b bar 1 1 bar 2 2;board b 5 5;");
+        dueLike(heaps, "rule a;rule b bar 1 1 bar 3 3;board b 5 5;");
+        dueLike(heaps, "rule a;rule b most 3;board b 5 5;");
+        dueLike(heaps, "rule q;");
+        Check.append(heaps, "rule ;");
+        Check.due("load", heaps.loadHeaps(), -1);
+        dueLike(heaps, "rule a;rule b slack 3;board b 5 5;board a 0 1;stick 1 1;");
+    }
+
+    private static void dueLike(GoldenHeaps heaps, String text) {
+        Check.append(heaps, text);
+        GoldenHeaps fresh = Check.loaded(text);
+        Check.due("load of " + text, heaps.loadHeaps(), fresh.count(1) + fresh.count(2));
+        Check.due("error", heaps.errorCode(), GoldenHeaps.NO_ERROR);
+        Check.due("offset", heaps.errorOffset(), -1);
+        Check.due("parts", Check.parts(heaps), Check.parts(fresh));
+        for (int what = 0; what <= 12; what++) {
+            Check.due("count(" + what + ") of " + text, heaps.count(what), fresh.count(what));
+        }
+        for (int rule = 0; rule < fresh.count(0); rule++) {
+            Check.due("rule", Check.rule(heaps, rule), Check.rule(fresh, rule));
+            Check.dueSameTable(heaps, fresh, rule);
+        }
+    }
+
     private static void errorChangesNothing() {
         GoldenHeaps heaps = Check.loaded("rule a;board a 3 3;first 1;");
         heaps.move(0, 1, 1);
@@ -141,6 +176,11 @@ final class SetupTest {
         Check.dueError(";", GoldenHeaps.SYNTAX, 0);
         Check.dueError("rule a;;", GoldenHeaps.SYNTAX, 7);
         Check.dueError("rules a;", GoldenHeaps.SYNTAX, 0);
+        Check.dueError("tule a;", GoldenHeaps.SYNTAX, 0);
+        Check.dueError("rulf a;", GoldenHeaps.SYNTAX, 0);
+        Check.dueError("rul a;", GoldenHeaps.SYNTAX, 0);
+        Check.dueError("rule a;coard a 1 1;", GoldenHeaps.SYNTAX, 7);
+        Check.dueError("rule a far 1 1;", GoldenHeaps.SYNTAX, 7);
         Check.dueError("7 a;", GoldenHeaps.SYNTAX, 0);
         Check.dueError("rule 7;", GoldenHeaps.SYNTAX, 5);
         Check.dueError("rule ;", GoldenHeaps.SYNTAX, 5);

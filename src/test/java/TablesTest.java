@@ -14,6 +14,7 @@ final class TablesTest {
         changedBy();
         losingWith();
         shareAndMean();
+        tablesFollowRules();
         Check.finish("TablesTest");
     }
 
@@ -89,6 +90,7 @@ final class TablesTest {
         // 1, 2 leads to 0, 1 at the latest, and that to 0, 0.
         Check.due("losing", heaps.span(0, 1, 2), 2);
         Check.due("winning", heaps.span(0, 7, 0), 1);
+        Check.due("winning", heaps.span(0, 0, 7), 1);
         Check.due("winning", heaps.span(0, 2, 2), 1);
         Check.due("winning by 1, 2 alone", heaps.span(0, 2, 3), 3);
         Check.due("losing", heaps.span(0, 3, 5), 4);
@@ -134,6 +136,8 @@ final class TablesTest {
         Check.due("partner of 39", heaps.partner(0, 39), 24);
         Check.due("partner of 40", heaps.partner(0, 40), -1);
         Check.due("the smallest one", heaps.partner(1, 40), 1);
+        heaps.setSlack(0, 0);
+        Check.due("the greatest x", heaps.partner(0, 40), 40);
         Check.noIndex("partner(2, 0)", () -> heaps.partner(2, 0));
         Check.noIndex("partner(-1, -1)", () -> heaps.partner(-1, -1));
         Check.noRange("partner(0, 41)", () -> heaps.partner(0, 41));
@@ -206,6 +210,35 @@ final class TablesTest {
         Check.noIndex("losingWith(-1, 6)", () -> heaps.losingWith(-1, 6));
         Check.noRange("losingWith(0, 6)", () -> heaps.losingWith(0, 6));
         Check.noRange("losingWith(0, -1)", () -> heaps.losingWith(0, -1));
+    }
+
+    /** The tables are those of the rules as they are now. */
+    private static void tablesFollowRules() {
+        GoldenHeaps heaps = Check.loaded("rule b;rule a slack 5 most 30;");
+        Check.dueSameTable(heaps, Check.loaded("rule b;rule a slack 5 most 30;"), 1);
+        heaps.setSlack(1, 0);
+        Check.dueSameTable(heaps, Check.loaded("rule b;rule a slack 0 most 30;"), 1);
+        heaps.setMost(1, 1);
+        Check.dueSameTable(heaps, Check.loaded("rule b;rule a slack 0 most 1;"), 1);
+        heaps.bar(1, 1, 0, true);
+        heaps.keep(0);
+        Check.dueSameTable(heaps, Check.loaded("rule b;rule a slack 0 most 1 bar 1 0;"), 1);
+        heaps.bar(1, 0, 1, true);
+        Check.dueSameTable(heaps, Check.loaded("rule b;rule a slack 0 most 1 bar 1 0 bar 0 1;"), 1);
+        Check.due("no moves", heaps.rule(1, 5) + heaps.rule(1, 8), 0);
+        heaps.bar(1, 1, 0, false);
+        Check.dueSameTable(heaps, Check.loaded("rule b;rule a slack 0 most 1 bar 0 1;"), 1);
+        heaps.undo();
+        heaps.undo();
+        Check.dueSameTable(heaps, Check.loaded("rule b;rule a slack 0 most 1 bar 1 0;"), 1);
+        heaps.setMost(1, 40);
+        heaps.setSlack(1, 2);
+        heaps.changedBy(1, 2, 2);
+        heaps.losingWith(1, 4);
+        Check.dueSameTable(heaps, Check.loaded("rule b;rule a slack 2 bar 1 0;"), 1);
+        heaps.bringBack(0);
+        Check.dueSameTable(heaps, Check.loaded("rule b;rule a slack 0 most 1 bar 1 0;"), 1);
+        Check.dueSameTable(heaps, Check.loaded("rule b;"), 0);
     }
 
     /** Promises 34 and 35. */
