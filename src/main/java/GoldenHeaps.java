@@ -71,7 +71,6 @@ public final class GoldenHeaps {
             snapshots[i] = new Game();
         }
         game.beginPlain();
-        mix.fit(game);
     }
 
     // ---- setup text
@@ -113,7 +112,6 @@ public final class GoldenHeaps {
             return -1;
         }
         game.copyFrom(loader.loaded);
-        mix.fit(game);
         history.clear();
         for (int i = 0; i < SLOTS; i++) {
             isKept[i] = false;
@@ -138,10 +136,10 @@ public final class GoldenHeaps {
             case 2: return game.parts.sticks;
             case 3: return game.player;
             case 4: return game.turnsNow;
-            case 5: return mix.totalOf(game.parts);
-            case 6: return mix.allMoves(game.parts);
-            case 7: return mix.allWinningMoves(game.parts);
-            case 8: return mix.isOver(game.parts) ? 1 : 0;
+            case 5: return fittedMix().totalOf(game.parts);
+            case 6: return fittedMix().allMoves(game.parts);
+            case 7: return fittedMix().allWinningMoves(game.parts);
+            case 8: return fittedMix().isOver(game.parts) ? 1 : 0;
             case 9: return game.games;
             case 10: return history.many;
             case 11: return game.parts.units();
@@ -167,17 +165,16 @@ public final class GoldenHeaps {
     public int rule(int rule, int what) throws IndexOutOfBoundsException, IllegalArgumentException {
         needRule(rule);
         Rule asked = game.ruleAt(rule);
-        Table table = mix.tableAt(rule);
         switch (what) {
             case 0: return asked.slack;
             case 1: return asked.most;
             case 2: return Long.bitCount(asked.only);
             case 3: return asked.bars;
             case 4: return asked.isFree() ? 1 : 0;
-            case 5: return table.greatestValue;
-            case 6: return table.losingMany;
+            case 5: return fittedTable(rule).greatestValue;
+            case 6: return fittedTable(rule).losingMany;
             case 7: return game.parts.boardsWith(rule);
-            case 8: return table.greatestSpan;
+            case 8: return fittedTable(rule).greatestSpan;
             default: throw new IllegalArgumentException("there is no such number of a rule");
         }
     }
@@ -210,9 +207,9 @@ public final class GoldenHeaps {
             case 1: return parts.kindOf(part);
             case 2: return parts.firstOf(part);
             case 3: return isBoard ? parts.secondOf(part) : NONE;
-            case 4: return mix.valueOf(parts, part);
-            case 5: return mix.movesTo(parts, part, ANY);
-            case 6: return mix.winningMoves(parts, part);
+            case 4: return fittedMix().valueOf(parts, part);
+            case 5: return fittedMix().movesTo(parts, part, ANY);
+            case 6: return fittedMix().winningMoves(parts, part);
             case 7: return parts.toldFirstOf(part);
             case 8: return isBoard ? parts.toldSecondOf(part) : NONE;
             default: throw new IllegalArgumentException("there is no such number of a part");
@@ -224,29 +221,29 @@ public final class GoldenHeaps {
     public boolean allows(int rule, int k, int l) throws IndexOutOfBoundsException, IllegalArgumentException {
         needRule(rule);
         needHeaps(k, l);
-        return game.ruleAt(rule).permits(k, l);
+        return k + l > 0 && game.ruleAt(rule).refusal(k, l) == 0;
     }
 
     public int whyNot(int part, int k, int l) throws IndexOutOfBoundsException {
         needPart(part);
-        return mix.reasonAgainst(game.parts, part, k, l);
+        return game.reasonAgainst(part, k, l);
     }
 
     public int value(int rule, int x, int y) throws IndexOutOfBoundsException, IllegalArgumentException {
         needRule(rule);
         needHeaps(x, y);
-        return mix.tableAt(rule).valueAt(x, y);
+        return fittedTable(rule).valueAt(x, y);
     }
 
     public int span(int rule, int x, int y) throws IndexOutOfBoundsException, IllegalArgumentException {
         needRule(rule);
         needHeaps(x, y);
-        return mix.tableAt(rule).spanAt(x, y);
+        return fittedTable(rule).spanAt(x, y);
     }
 
     public int losing(int rule, int index, boolean second) throws IndexOutOfBoundsException {
         needRule(rule);
-        int place = mix.tableAt(rule).losingPlace(index);
+        int place = fittedTable(rule).losingPlace(index);
         if (place < 0) {
             return NONE;
         }
@@ -256,7 +253,7 @@ public final class GoldenHeaps {
     public int partner(int rule, int x) throws IndexOutOfBoundsException, IllegalArgumentException {
         needRule(rule);
         needRange(x, 0, GREATEST_HEAP);
-        Table table = mix.tableAt(rule);
+        Table table = fittedTable(rule);
         for (int y = 0; y <= GREATEST_HEAP; y++) {
             if (table.valueAt(x, y) == 0) {
                 return y;
@@ -334,7 +331,7 @@ public final class GoldenHeaps {
         if (!asked.isFree()) {
             return NONE;
         }
-        Table table = mix.tableAt(rule);
+        Table table = fittedTable(rule);
         int golden = 0;
         int both = 0;
         for (int n = 0; n <= GREATEST_HEAP; n++) {
@@ -353,7 +350,7 @@ public final class GoldenHeaps {
 
     public int advice(int what) throws IllegalArgumentException {
         needRange(what, 0, 3);
-        mix.advise(game.parts, hint);
+        fittedMix().advise(game.parts, hint);
         if (!hint.isThere) {
             return NONE;
         }
@@ -366,11 +363,20 @@ public final class GoldenHeaps {
     }
 
     public int turnsIn() {
+        return turnsAhead(fittedMix());
+    }
+
+    public int winner() {
+        // With no turns ahead it is the one who has not the turn, as with two.
+        return (game.player + turnsAhead(fittedMix()) + 1) % PLAYERS;
+    }
+
+    private int turnsAhead(Mix fitted) {
         trial.copyFrom(game.parts);
         int turns = 0;
         // Each turn takes a unit, so there are fewer turns than 600.
         for (int i = 0; i < MOST_TURNS; i++) {
-            mix.advise(trial, hint);
+            fitted.advise(trial, hint);
             if (!hint.isThere) {
                 return turns;
             }
@@ -380,19 +386,14 @@ public final class GoldenHeaps {
         return turns;
     }
 
-    public int winner() {
-        // With no turns ahead it is the one who has not the turn, as with two.
-        return (game.player + turnsIn() + 1) % PLAYERS;
-    }
-
     public int totalBehind(int part, int k, int l) throws IndexOutOfBoundsException {
         needPart(part);
-        if (mix.reasonAgainst(game.parts, part, k, l) != 0) {
+        if (game.reasonAgainst(part, k, l) != 0) {
             return NONE;
         }
         trial.copyFrom(game.parts);
         trial.take(part, k, l);
-        return mix.totalOf(trial);
+        return fittedMix().totalOf(trial);
     }
 
     public int changedBy(int rule, int k, int l) throws IndexOutOfBoundsException, IllegalArgumentException {
@@ -401,7 +402,7 @@ public final class GoldenHeaps {
         otherRule.copyFrom(game.ruleAt(rule));
         otherRule.setBarred(k, l, !otherRule.isBarred(k, l));
         otherTable.fitLosing(otherRule);
-        return mix.tableAt(rule).losingDifference(otherTable);
+        return fittedTable(rule).losingDifference(otherTable);
     }
 
     public int losingWith(int rule, int slack) throws IndexOutOfBoundsException, IllegalArgumentException {
@@ -415,47 +416,48 @@ public final class GoldenHeaps {
 
     public float share(int rule) throws IndexOutOfBoundsException {
         needRule(rule);
-        return (float) mix.tableAt(rule).losingMany / (float) POSITIONS;
+        return (float) fittedTable(rule).losingMany / (float) POSITIONS;
     }
 
     public double meanValue(int rule) throws IndexOutOfBoundsException {
         needRule(rule);
-        return (double) mix.tableAt(rule).valueSum / (double) POSITIONS;
+        return (double) fittedTable(rule).valueSum / (double) POSITIONS;
     }
 
     // ---- changes
 
     public int move(int part, int k, int l) throws IndexOutOfBoundsException, IllegalStateException {
         needPart(part);
-        if (mix.reasonAgainst(game.parts, part, k, l) != 0) {
+        if (game.reasonAgainst(part, k, l) != 0) {
             throw new IllegalStateException("the move is refused");
         }
         history.push(game);
-        return makeTurn(part, k, l);
+        return makeTurn(fittedMix(), part, k, l);
     }
 
     public int follow(int turns) throws IllegalArgumentException {
         needRange(turns, 1, MOST_TURNS);
         history.push(game);
+        Mix fitted = fittedMix();
         for (int made = 0; made < turns; made++) {
-            mix.advise(game.parts, hint);
+            fitted.advise(game.parts, hint);
             if (!hint.isThere) {
                 return made;
             }
-            makeTurn(hint.part, hint.k, hint.l);
+            makeTurn(fitted, hint.part, hint.k, hint.l);
         }
         return turns;
     }
 
     /** Makes a move that is known to be allowed; answers TOTAL behind it. */
-    private int makeTurn(int part, int k, int l) {
+    private int makeTurn(Mix fitted, int part, int k, int l) {
         // There is a winning move exactly if TOTAL is not 0, as VALUES are made that way.
-        boolean couldWin = mix.totalOf(game.parts) != 0;
+        boolean couldWin = fitted.totalOf(game.parts) != 0;
         game.parts.take(part, k, l);
-        int total = mix.totalOf(game.parts);
+        int total = fitted.totalOf(game.parts);
         game.addToAccount(0, 1);
         game.addToAccount(1, k + l);
-        if (mix.isOver(game.parts)) {
+        if (fitted.isOver(game.parts)) {
             game.addToAccount(2, 1);
         }
         if (total == 0) {
@@ -479,7 +481,6 @@ public final class GoldenHeaps {
         }
         history.push(game);
         changed.setBarred(k, l, is);
-        mix.fit(game);
         return changed.bars;
     }
 
@@ -490,7 +491,6 @@ public final class GoldenHeaps {
         Rule changed = game.ruleAt(rule);
         int before = changed.slack;
         changed.slack = slack;
-        mix.fit(game);
         return before;
     }
 
@@ -501,7 +501,6 @@ public final class GoldenHeaps {
         Rule changed = game.ruleAt(rule);
         int before = changed.most;
         changed.most = most;
-        mix.fit(game);
         return before;
     }
 
@@ -512,7 +511,7 @@ public final class GoldenHeaps {
         game.player = first;
         game.turnsNow = 0;
         game.games++;
-        return mix.totalOf(game.parts);
+        return fittedMix().totalOf(game.parts);
     }
 
     public int undo() throws NoSuchElementException {
@@ -520,7 +519,6 @@ public final class GoldenHeaps {
             throw new NoSuchElementException("there is nothing to undo");
         }
         history.pop(game);
-        mix.fit(game);
         return history.many;
     }
 
@@ -597,9 +595,23 @@ public final class GoldenHeaps {
             throw new NoSuchElementException("nothing is kept there");
         }
         game.copyFrom(snapshots[slot]);
-        mix.fit(game);
         history.clear();
         return game.turnsNow;
+    }
+
+    // ---- tables, made when they are asked for
+
+    /** The only way to the mix: its tables are those of what the boards' rules say now. */
+    private Mix fittedMix() {
+        mix.fit(game);
+        return mix;
+    }
+
+    /** The table of what a rule says now. */
+    private Table fittedTable(int rule) {
+        Table table = mix.tableAt(rule);
+        table.fit(game.ruleAt(rule));
+        return table;
     }
 
     // ---- what calls need of their arguments
@@ -801,10 +813,6 @@ public final class GoldenHeaps {
             }
             return placeOfBar(k, l) != NONE ? 7 : 0;
         }
-
-        boolean permits(int k, int l) {
-            return k + l > 0 && refusal(k, l) == 0;
-        }
     }
 
     /** VALUE and SPAN of all positions of a rule. */
@@ -860,7 +868,7 @@ public final class GoldenHeaps {
             steps = 0;
             for (int k = 0; k <= GREATEST_HEAP; k++) {
                 for (int l = 0; l <= GREATEST_HEAP; l++) {
-                    if (rule.permits(k, l) && steps < POSITIONS) {
+                    if (k + l > 0 && rule.refusal(k, l) == 0 && steps < POSITIONS) {
                         stepK[steps] = k;
                         stepL[steps] = l;
                         steps++;
@@ -878,12 +886,15 @@ public final class GoldenHeaps {
                 if (stepL[i] <= y) {
                     int to = place - stepK[i] * SIDE - stepL[i];
                     int reached = values[to];
+                    int span = spans[to];
                     if (reached >= 0 && reached < POSITIONS) {
                         reachedFrom[reached] = place + 1;
                     }
-                    farthest = Math.max(farthest, spans[to]);
-                    if (reached == 0) {
-                        nearestLosing = Math.min(nearestLosing, spans[to]);
+                    if (span > farthest) {
+                        farthest = span;
+                    }
+                    if (reached == 0 && span < nearestLosing) {
+                        nearestLosing = span;
                     }
                 }
             }
@@ -1147,6 +1158,21 @@ public final class GoldenHeaps {
             return rule >= 0 && rule < RULE_ROOM ? rules[rule] : rules[0];
         }
 
+        /** The first of all reasons against a move on a part; 0 if there is none. */
+        int reasonAgainst(int part, int k, int l) {
+            if (k < 0 || l < 0 || k == 0 && l == 0) {
+                return 1;
+            }
+            if (k > parts.firstOf(part) || l > parts.secondOf(part)) {
+                return 2;
+            }
+            int kind = parts.kindOf(part);
+            if (parts.isBoard(part)) {
+                return ruleAt(kind).refusal(k, l);
+            }
+            return k > kind ? 3 : 0;
+        }
+
         Rule addRule(long name) {
             Rule added = ruleAt(ruleMany);
             added.begin(name);
@@ -1213,10 +1239,10 @@ public final class GoldenHeaps {
             }
         }
 
-        /** Needed behind whatever may have changed a rule. */
         void fit(Game game) {
-            for (int i = 0; i < game.ruleMany && i < RULE_ROOM; i++) {
-                tables[i].fit(game.rules[i]);
+            for (int board = 0; board < game.parts.boards; board++) {
+                int rule = game.parts.kindOf(board);
+                tableAt(rule).fit(game.ruleAt(rule));
             }
         }
 
@@ -1287,20 +1313,6 @@ public final class GoldenHeaps {
                 }
             }
             return true;
-        }
-
-        int reasonAgainst(Parts parts, int part, int k, int l) {
-            if (k < 0 || l < 0 || k == 0 && l == 0) {
-                return 1;
-            }
-            if (k > parts.firstOf(part) || l > parts.secondOf(part)) {
-                return 2;
-            }
-            int kind = parts.kindOf(part);
-            if (parts.isBoard(part)) {
-                return tableAt(kind).fitted.refusal(k, l);
-            }
-            return k > kind ? 3 : 0;
         }
 
         private boolean findMove(Parts parts, int part, int target, Hint found) {
