@@ -19,7 +19,7 @@ final class Check {
         if (!got.equals(want)) {
             wrong++;
             if (wrong <= 40) {
-                System.out.println(call + " answered " + got + ", due is " + want);
+                System.out.println((call + " answered " + got + ", due is " + want).replaceAll("[^ -~]", "?"));
             }
         }
     }
