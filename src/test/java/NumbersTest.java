@@ -211,7 +211,10 @@ final class NumbersTest {
         }
         Check.due("letter", heaps.ruleLetter(1, 0), 17);
         Check.due("letter", heaps.ruleLetter(1, 1), 0);
-        Check.due("letter", heaps.ruleLetter(1, -1), 0);
+        for (int index = 8; index < 80; index++) {
+            Check.due("letter " + index, heaps.ruleLetter(0, index), 0);
+            Check.due("letter " + (7 - index), heaps.ruleLetter(0, 7 - index), 0);
+        }
         Check.due("letter", heaps.ruleLetter(1, Integer.MAX_VALUE), 0);
         Check.noIndex("letter", () -> heaps.ruleLetter(2, 0));
         Check.noIndex("letter", () -> heaps.ruleLetter(-1, 0));
