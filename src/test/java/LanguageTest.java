@@ -1,6 +1,7 @@
 import java.io.IOException;
 import java.io.PrintWriter;
 import java.io.StringWriter;
+import java.lang.reflect.Array;
 import java.lang.reflect.Constructor;
 import java.lang.reflect.Field;
 import java.lang.reflect.Method;
@@ -8,7 +9,10 @@ import java.lang.reflect.Modifier;
 import java.nio.file.Files;
 import java.nio.file.Path;
 import java.util.ArrayList;
+import java.util.Arrays;
+import java.util.Collections;
 import java.util.HashMap;
+import java.util.IdentityHashMap;
 import java.util.List;
 import java.util.Map;
 import java.util.Set;
@@ -42,7 +46,9 @@ final class LanguageTest {
         LanguageTest test = new LanguageTest(Path.of(args[0]), Path.of(args[1]));
         test.face();
         test.sizes();
+        test.room();
         test.words();
+        test.throwsAreWritten();
         test.methodsAreShort();
         test.code();
         test.depth();
@@ -115,6 +121,72 @@ final class LanguageTest {
             Check.due("nested and static " + one, one == GoldenHeaps.class || Modifier.isStatic(one.getModifiers())
                 && Modifier.isPrivate(one.getModifiers()), true);
         }
+    }
+
+    /** All that an object holds is made with it; one with everything used holds no more than a new one. */
+    private void room() {
+        GoldenHeaps heaps = new GoldenHeaps();
+        long[] fresh = room(heaps);
+        Check.append(heaps, "rule a slack 5;rule b slack 4;rule c slack 3;rule d slack 2;board a 9 9;board d 9 9;");
+        heaps.loadHeaps();
+        heaps.follow(600);
+        heaps.keep(0);
+        heaps.undo();
+        heaps.bringBack(0);
+        heaps.changedBy(0, 1, 1);
+        heaps.printParts();
+        long[] used = room(heaps);
+        System.out.println("a new object holds " + fresh[0] + " objects and arrays, " + fresh[1] + " fields and elements");
+        Check.due("no more objects and arrays", used[0] <= fresh[0], true);
+        Check.due("no more fields and elements", used[1] <= fresh[1], true);
+        Check.due("at most 300 objects and arrays", fresh[0] <= 300, true);
+        Check.due("at most 60000 fields and elements", fresh[1] <= 60000, true);
+    }
+
+    /** How many objects and arrays are reached from an object, and how many fields and elements they have. */
+    private static long[] room(Object from) {
+        Set<Object> seen = Collections.newSetFromMap(new IdentityHashMap<>());
+        List<Object> open = new ArrayList<>(List.of(from));
+        long places = 0;
+        while (!open.isEmpty()) {
+            Object one = open.remove(open.size() - 1);
+            if (one != null && seen.add(one)) {
+                places += one.getClass().isArray() ? Array.getLength(one) : fieldsOf(one, open);
+                if (one instanceof Object[]) {
+                    open.addAll(Arrays.asList((Object[]) one));
+                }
+            }
+        }
+        return new long[] {seen.size(), places};
+    }
+
+    private static int fieldsOf(Object one, List<Object> open) {
+        int fields = 0;
+        try {
+            for (Field field : one.getClass().getDeclaredFields()) {
+                if (!Modifier.isStatic(field.getModifiers())) {
+                    fields++;
+                    field.setAccessible(true);
+                    open.add(field.getType().isPrimitive() ? null : field.get(one));
+                }
+            }
+        } catch (IllegalAccessException e) {
+            Check.due("fields of " + one, e.getMessage(), "read");
+        }
+        return fields;
+    }
+
+    /** Rule 6: each throw makes one of the exceptions that the document names, with a written text; none is caught. */
+    private void throwsAreWritten() throws IOException {
+        int throwing = 0;
+        for (String line : Files.readAllLines(source)) {
+            if (line.matches(".*\\bthrow\\b.*")) {
+                throwing++;
+                Check.due("throw in " + line, line.matches(".* throw new (IllegalState|IllegalArgument|IndexOutOfBounds"
+                    + "|NoSuchElement)Exception\\(\"[^\"]+\"\\);"), true);
+            }
+        }
+        Check.due("throws were read", throwing >= 5, true);
     }
 
     private void words() throws IOException {
